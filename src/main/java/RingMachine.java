@@ -395,11 +395,10 @@ public final class RingMachine {
         memory.setWord(now.held(s).base + offset, v, now.ring);
     }
 
-    /** Spells out setWordIn for the stack, because calls go at most eight deep. */
+    /** Not by setWordIn, for calls go at most eight deep; the kind is right, for a stack that isn't NULL is data. */
     private void pushWord(int v) {
         now.sp = (now.sp - 2) & WORD;
         checkAccess(SS, now.sp);
-        fault.refuse(now.ss.kind != DATA, GENERAL, 0);
         memory.setWord(now.ss.base + now.sp, v, now.ring);
     }
 
@@ -616,7 +615,7 @@ public final class RingMachine {
         memory.setByte(place, old & 240 | kind, SYSTEM);
     }
 
-    /** A fault that is raised here must not undo the switch, so each step is kept at once. */
+    /** A fault that is raised here must not undo the switch, so what was taken is kept ahead of each look-up. */
     private void takeSegment(int s, int selector) {
         now.held(s).clear();
         before.copy(now);
@@ -627,7 +626,6 @@ public final class RingMachine {
         lookUp(selector, target);
         fault.refuse(!fitsTask(s) || !target.present, TASK_FAULT, codeOf(selector));
         now.held(s).copy(target);
-        before.copy(now);
     }
 
     private boolean fitsTask(int s) {
@@ -696,7 +694,6 @@ public final class RingMachine {
         }
 
         void flat(int selector, int kind) {
-            clear();
             this.selector = selector;
             this.kind = kind;
             limit = LINEAR;

@@ -32,6 +32,7 @@ public final class BackTest {
     /** A return from ring 1 to this selector. */
     private static void selector(Due due, String what, int selector, long descriptor, int want) {
         Bench b = new Bench().toRing(1);
+        b.put(0, Bench.descriptor(0, 4095, Bench.CONFORMING, 0));
         b.put(FREE, descriptor);
         b.push(Bench.data(selector & 3), 600, selector, 300);
         due.same(what, b.x.back(), want);
@@ -82,6 +83,7 @@ public final class BackTest {
 
     private static void outerStack(Due due, String what, int selector, long descriptor, int want) {
         Bench b = new Bench();
+        b.put(0, descriptor);
         b.put(FREE, descriptor);
         b.push(selector, 600, Bench.code(2), 300);
         due.same(what, b.x.back(), want);

@@ -16,7 +16,8 @@ public final class FaceTest {
     public static void main(String[] args) {
         Due due = new Due();
         Class<?> c = RingMachine.class;
-        due.yes("the class is public and final", Modifier.isPublic(c.getModifiers()) && Modifier.isFinal(c.getModifiers()));
+        due.yes("the class is public", Modifier.isPublic(c.getModifiers()));
+        due.yes("the class is final", Modifier.isFinal(c.getModifiers()));
         TreeSet<String> want = new TreeSet<>(java.util.List.of(FACE));
         TreeSet<String> got = new TreeSet<>();
         for (Method m : c.getDeclaredMethods()) {

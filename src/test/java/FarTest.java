@@ -26,9 +26,12 @@ public final class FarTest {
 
     private static void nulls(Due due) {
         for (int selector = 0; selector < 4; selector++) {
-            due.same("a call to " + selector, new Bench().x.far(selector, 0, true), Bench.general(0));
-            due.same("a jump to " + selector, new Bench().x.far(selector, 0, false), Bench.general(0));
+            Bench b = new Bench().toRing(selector);
+            b.put(0, Bench.descriptor(0, 4095, Bench.CONFORMING, 0));
+            due.same("a jump to " + selector, b.x.far(selector, 0, false), Bench.general(0));
+            due.same("a call to " + selector, b.x.far(selector, 0, true), Bench.general(0));
         }
+        due.same("the index has 14 bits", new Bench().x.far(32768 + 4, 0, true), Bench.general(32768 + 4));
         due.same("an index of COUNT", new Bench().x.far(4 * Bench.COUNT + 1, 0, true), Bench.general(4 * Bench.COUNT));
     }
 
@@ -169,6 +172,7 @@ public final class FarTest {
     private static void targets(Due due) {
         for (int call = 0; call < 2; call++) {
             Bench b = new Bench();
+            b.put(0, Bench.descriptor(0, 4095, Bench.CODE, 0));
             b.put(FREE, Bench.callGate(3, 70, 3, 0));
             due.same("a gate to NULL", b.x.far(4 * FREE, 0, call == 1), Bench.general(0));
             b.put(FREE, Bench.callGate(4 * 60 + 1, 70, 3, 0));
@@ -222,11 +226,20 @@ public final class FarTest {
         due.same("words round the end of the stack", wrapped.x.far(Bench.select(FREE, 3), 1, true), 0);
         due.same("the first", wrapped.word(Bench.innerSp(0) - 8), 5);
         due.same("the second", wrapped.word(Bench.innerSp(0) - 6), 6);
+        Bench middle = new Bench();
+        middle.put(OTHER, Bench.descriptor(640, 65535, Bench.DATA, 3));
+        middle.push(Bench.select(OTHER, 3), 32768, Bench.code(3), 40);
+        middle.x.back();
+        middle.put(FREE, Bench.callGate(Bench.code(0), 700, 3, 1));
+        middle.setWord(640, 6);
+        due.same("a word at SP 32768", middle.x.far(Bench.select(FREE, 3), 1, true), 0);
+        due.same("it is at 640, for linear addresses are taken mod 4096", middle.word(Bench.innerSp(0) - 6), 6);
     }
 
     private static void stackRefused(Due due, String what, int selector, long descriptor, int want) {
         Bench b = new Bench().toRing(3);
         b.put(FREE, Bench.callGate(Bench.code(1), 700, 3, 0));
+        b.put(0, descriptor);
         b.put(OTHER, descriptor);
         b.innerStack(Bench.STATE, 1, 900, selector);
         due.same(what, b.x.far(Bench.select(FREE, 3), 0, true), want);
@@ -239,16 +252,19 @@ public final class FarTest {
         for (int rpl = 0; rpl < 4; rpl++) {
             stackRefused(due, "inner SS " + rpl, rpl, good, Bench.fault(10, 0));
             stackRefused(due, "inner SS with RPL " + rpl, Bench.select(OTHER, rpl), good, rpl == 1 ? 0 : task);
-            stackRefused(due, "inner SS of level " + rpl, inner, Bench.descriptor(0, 4095, Bench.DATA, rpl), rpl == 1 ? 0 : task);
+            stackRefused(due, "inner SS of level " + rpl, inner, Bench.descriptor(0, 4095, Bench.DATA, rpl),
+                    rpl == 1 ? 0 : task);
         }
         for (int kind = 0; kind < 10; kind++) {
-            stackRefused(due, "inner SS of kind " + kind, inner, Bench.descriptor(0, 4095, kind, 1), kind == 4 ? 0 : task);
+            stackRefused(due, "inner SS of kind " + kind, inner, Bench.descriptor(0, 4095, kind, 1),
+                    kind == 4 ? 0 : task);
         }
         stackRefused(due, "inner SS that is not present", inner, Bench.absent(good), Bench.fault(12, 4 * OTHER));
         stackRefused(due, "inner SS of a wrong level that is not present", inner,
                 Bench.absent(Bench.descriptor(0, 4095, Bench.DATA, 0)), task);
         stackRefused(due, "inner SS beyond COUNT", 4 * Bench.COUNT + 1, good, Bench.general(4 * Bench.COUNT));
-        stackRefused(due, "inner SS that is too short", inner, Bench.descriptor(0, 890, Bench.DATA, 1), Bench.fault(12, 0));
+        stackRefused(due, "inner SS that is too short", inner, Bench.descriptor(0, 890, Bench.DATA, 1),
+                Bench.fault(12, 0));
     }
 
     private static void innerFaults(Due due) {

@@ -104,8 +104,13 @@ public final class FaultTest {
         due.same("the code is pushed behind it", b.word(sp - 12), 0);
         Bench narrow = new Bench().toRing(3);
         narrow.innerStack(Bench.STATE, 0, 10, Bench.data(0));
+        String state = narrow.state();
         due.same("a fault on a stack without room for its code", narrow.x.load(2, 4 * 30), Bench.general(120));
         due.same("neither is there for the double fault's", narrow.x.register(12), 1);
+        due.same("registers", narrow.state(), state);
+        due.same("CS", narrow.held(0), "0 4095 1 3");
+        due.same("SS", narrow.held(1), "0 4095 4 3");
+        due.same("what was pushed stays", narrow.word(0), 40);
         Bench trapped = new Bench().toRing(3);
         trapped.innerStack(Bench.STATE, 0, 10, Bench.data(0));
         due.same("a trap has room there", trapped.x.trap(3), 0);

@@ -42,6 +42,7 @@ public final class LoadTest {
     private static void dataNull(Due due) {
         for (int selector = 0; selector < 4; selector++) {
             Bench b = new Bench();
+            b.put(0, Bench.descriptor(5, 50, Bench.DATA, 3));
             due.same("load of DS with " + selector, b.x.load(2, selector), 0);
             due.same("registers", b.state(), "4 8 " + selector + " 512 1 0 0");
             due.same("what it is", b.held(2), "0 0 0 0");
@@ -110,7 +111,9 @@ public final class LoadTest {
 
     private static void stackRefused(Due due) {
         for (int selector = 0; selector < 4; selector++) {
-            due.same("load of SS with " + selector, new Bench().x.load(1, selector), Bench.general(0));
+            Bench b = new Bench().toRing(selector);
+            b.put(0, Bench.descriptor(5, 50, Bench.DATA, selector));
+            due.same("load of SS with " + selector, b.x.load(1, selector), Bench.general(0));
         }
         int general = Bench.general(4 * FREE);
         refused(due, "SS with a lower RPL", Bench.descriptor(0, 99, Bench.DATA, 1), 0, general);
@@ -134,6 +137,8 @@ public final class LoadTest {
         due.same("a negative selector too", b.x.load(2, 16 - 65536), 0);
         due.same("DS", b.x.register(2), 16);
         due.same("-1 is 65535", b.x.load(2, -1), Bench.general(65532));
+        due.same("the index has 14 bits", b.x.load(1, 32768 + 8), Bench.general(32768 + 8));
+        due.same("that of DS, too", b.x.load(2, 32768 + 8), Bench.general(32768 + 8));
         // Of the byte of the kind, and of the one of the level, other bits tell nothing.
         b.put(FREE, Bench.descriptor(1, 2, Bench.DATA, 1) | 0x7C_F0_0000_0000L);
         due.same("a descriptor with other bits set", b.x.load(2, 4 * FREE), 0);

@@ -104,6 +104,8 @@ public final class ReadWriteTest {
         due.same("a negative word", b.x.write(2, 652, -2), 0);
         due.same("the word", b.word(652), 65534);
         due.same("offset -1", b.x.read(2, -1), Bench.general(0));
+        due.same("offset 32768 + 654", b.x.write(2, 32768 + 654, 5), Bench.general(0));
+        due.same("the word at 654", b.word(654), 0);
     }
 
     private static void instructionPointer(Due due) {
@@ -113,6 +115,9 @@ public final class ReadWriteTest {
         due.same("IP ahead", b.x.register(4), 65535);
         b.x.read(2, 0);
         due.same("IP grows mod 65536", b.x.register(4), 0);
+        b.x.far(4 * FREE, 32767, false);
+        b.x.read(2, 0);
+        due.same("IP grows beyond 32767", b.x.register(4), 32768);
         b.setWord(700, 9);
         b.x.read(2, 700);
         b.x.read(2, 4095);

@@ -61,6 +61,12 @@ public final class StackTest {
         due.same("pop", b.x.pop(), 0);
         due.same("SP grows mod 65536", b.x.register(3), 0);
         due.same("what is beyond memory is all ones", b.x.register(11), 65535);
+        Bench middle = new Bench();
+        middle.put(FREE, Bench.descriptor(0, 65535, Bench.DATA, 1));
+        middle.push(Bench.select(FREE, 1), 32766, Bench.code(1), 40);
+        middle.x.back();
+        due.same("pop at SP 32766", middle.x.pop(), 0);
+        due.same("SP grows beyond 32767", middle.x.register(3), 32768);
         Bench odd = new Bench();
         odd.put(FREE, Bench.descriptor(0, 65535, Bench.DATA, 3));
         odd.push(Bench.select(FREE, 3), 1, Bench.code(3), 40);

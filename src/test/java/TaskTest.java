@@ -22,6 +22,8 @@ public final class TaskTest {
         directorySwitched(due);
         faultsWhileSaving(due);
         flagsSaved(due);
+        bySystem(due);
+        marks(due);
         due.finish();
     }
 
@@ -160,6 +162,7 @@ public final class TaskTest {
     private static void ending(Due due, String what, int link, long descriptor, int want) {
         Bench b = bench();
         b.x.far(4 * NEW, 0, true);
+        b.put(0, Bench.descriptor(OLD_STATE, 99, Bench.BUSY, 0));
         b.put(EXTRA, descriptor);
         b.setWord(STATE, link);
         due.same(what, b.x.end(), want);
@@ -176,7 +179,8 @@ public final class TaskTest {
             ending(due, "an end to " + selector, selector, busy, Bench.general(0));
         }
         for (int kind : new int[] {0, 1, 2, 3, 4, 7, 8, 9, 15}) {
-            ending(due, "an end to kind " + kind, 4 * EXTRA, Bench.descriptor(OLD_STATE, 99, kind, 0), Bench.general(0));
+            ending(due, "an end to kind " + kind, 4 * EXTRA, Bench.descriptor(OLD_STATE, 99, kind, 0),
+                    Bench.general(0));
         }
         ending(due, "an end beyond COUNT", 4 * Bench.COUNT, busy, Bench.general(4 * Bench.COUNT));
     }
@@ -202,6 +206,7 @@ public final class TaskTest {
     /** A jump to a task one of whose segments is this selector; the fault goes to ring 0 with what was taken. */
     private static void taking(Due due, String what, int s, int selector, long descriptor, int want) {
         Bench b = bench();
+        b.put(0, Bench.descriptor(0, 4095, s == 0 ? Bench.CODE : Bench.DATA, 0));
         b.put(EXTRA, descriptor);
         b.setWord(STATE + 14 + 6 + 2 * s, selector);
         due.same(what, b.x.far(4 * NEW, 0, false), want);
@@ -326,5 +331,52 @@ public final class TaskTest {
             due.same("a switch from a nested task", b.x.far(4 * NEW, 0, call == 1), 0);
             due.same("its FLAGS are saved whole", b.word(Bench.STATE + 16), 3);
         }
+    }
+
+    /** Ring 3 switches tasks, forth and back, though no page of tables and states is open or writable to it. */
+    private static void bySystem(Due due) {
+        for (int call = 0; call < 2; call++) {
+            Bench b = paged();
+            b.taskState(OLD_STATE, 90, 0, 660, Bench.code(3), Bench.data(3), 0, 3, 1);
+            b.taskState(STATE, 50, 1, 700, Bench.code(3), Bench.data(3), Bench.data(3), 3, 1);
+            b.x.far(4 * OLD, 0, false);
+            for (int page = 0; page < 16; page++) {
+                b.setWord(128 + 2 * page, 256 * page + 1);
+                b.setWord(192 + 2 * page, 256 * (16 + page) + 1);
+            }
+            b.x.pages(1, true);
+            due.same("a switch by ring 3", b.x.far(4 * NEW, 0, call == 1), 0);
+            due.same("registers", b.state(), NEW_REGISTERS + (call == 1 ? " 3 3" : " 1 3"));
+            due.same("a switch back", call == 1 ? b.x.end() : b.x.far(4 * OLD, 0, false), 0);
+            due.same("registers", b.state(), Bench.code(3) + " " + Bench.data(3) + " 0 660 91 0 3");
+            due.same("a push by ring 3", b.x.push(1), Bench.fault(14, 7));
+            due.same("the fault address", b.x.register(10), 658);
+        }
+    }
+
+    private static void marks(Due due) {
+        Bench b = paged();
+        b.taskState(STATE, 50, 1, 700, 4, 8, 8, 0, 1);
+        b.x.pages(1, true);
+        due.same("a jump", b.x.far(4 * NEW, 0, false), 0);
+        due.same("the page of the descriptor is changed", b.word(128 + 10), 256 * 5 + 7 + 96);
+        due.same("the page of the other descriptors is only seen", b.word(128 + 8), 256 * 4 + 7 + 32);
+        Bench away = new Bench();
+        away.put(NEW, Bench.descriptor(STATE, 99, Bench.TASK, 3));
+        away.put(EXTRA + 8, Bench.descriptor(OLD_STATE, 99, Bench.TASK, 3));
+        away.taskState(STATE, 50, 1, 700, 4, 8, 8, 0, 1);
+        away.taskState(OLD_STATE, 90, 0, 660, 4, 8, 8, 0, 1);
+        away.x.far(4 * (EXTRA + 8), 0, false);
+        due.same("TR", away.x.register(7), 4 * (EXTRA + 8));
+        away.x.fill(64, 0x03070207L);
+        for (int page = 0; page < 16; page++) {
+            away.setWord(128 + 2 * page, 256 * page + (page == 6 ? 6 : 7));
+            away.setWord(192 + 2 * page, 256 * (16 + page) + 7);
+        }
+        away.x.pages(1, true);
+        due.same("the old descriptor is not there to be read", away.x.far(4 * NEW, 0, false), Bench.fault(14, 0));
+        due.same("the fault address", away.x.register(10), Bench.TABLE + 8 * (EXTRA + 8) + 4);
+        due.same("the new one is not marked", kind(away, NEW), Bench.TASK);
+        due.same("the old state was saved ahead", away.word(OLD_STATE + 14), 91);
     }
 }

@@ -102,6 +102,7 @@ public final class TrapTest {
 
     private static void target(Due due, String what, int selector, long descriptor, int want) {
         Bench b = new Bench().toRing(1);
+        b.put(0, Bench.descriptor(0, 4095, Bench.CODE, 0));
         b.put(FREE, descriptor);
         b.gate(3, Bench.descriptor(900, selector, Bench.TRAP, 3));
         due.same(what, b.x.trap(3), want);
