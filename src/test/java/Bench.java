@@ -66,6 +66,21 @@ final class Bench {
         return descriptor(offset, selector, GATE, level) | (long) words << 48;
     }
 
+    /** An entry of a directory or of a table of pages. */
+    static int entry(int frame, int bits) {
+        return 256 * frame + bits;
+    }
+
+    /** Where the directory of a paged bench has the entry of a page. */
+    static int directoryEntry(int page) {
+        return 64 + 2 * (page / 16);
+    }
+
+    /** Where the tables of a paged bench have the entry of a page, 0 .. 31. */
+    static int tableEntry(int page) {
+        return 128 + 64 * (page / 16) + 2 * (page % 16);
+    }
+
     static int fault(int vector, int code) {
         return 65536 * vector + code;
     }
@@ -106,11 +121,54 @@ final class Bench {
     Bench toRing(int ring) {
         if (ring == 0) {
             push(code(0), 40);
-        } else {
-            push(data(ring), 700, code(ring), 40);
+            x.back();
+            return this;
         }
+        return toStack(data(ring), 700);
+    }
+
+    /** Returns outwards to the ring of a stack, so that SP is this one and IP 40. */
+    Bench toStack(int selector, int sp) {
+        push(selector, sp, code(selector & 3), 40);
         x.back();
         return this;
+    }
+
+    /** Goes on at this IP in ring 0, in code at this index whose limit is the greatest. */
+    Bench toIp(int index, int ip) {
+        put(index, descriptor(0, 65535, CODE, 0));
+        x.far(select(index, 0), ip, false);
+        return this;
+    }
+
+    /** Ends a trap in ring 0, so that FLAGS are these, and IP 60. */
+    Bench toFlags(int flags) {
+        push(flags, code(0), 60);
+        x.end();
+        return this;
+    }
+
+    /** The directory is frame 1, and page n is frame n of memory, through the tables in the frames 2 and 3. */
+    Bench paged() {
+        setWord(directoryEntry(0), entry(2, 7));
+        setWord(directoryEntry(16), entry(3, 7));
+        for (int page = 0; page < 32; page++) {
+            mapPage(page, page, 7);
+        }
+        return this;
+    }
+
+    void mapPage(int page, int frame, int bits) {
+        setWord(tableEntry(page), entry(frame, bits));
+    }
+
+    /** The page's entry in its table: its frame is the page's own, and it has these bits. */
+    void setPage(int page, int bits) {
+        mapPage(page, page, bits);
+    }
+
+    int bitsOfPage(int page) {
+        return x.peek(tableEntry(page));
     }
 
     /** IP, FLAGS, SP, CS, SS, DS, ring, DIRECTORY, as a task's state has them. */

@@ -2,20 +2,22 @@
 final class Due {
     private int wrong;
     private int asked;
+    private String sentence = "";
+
+    /** The sentence of the document that the answers from here on are due by; it is printed with wrong ones. */
+    void sentence(String text) {
+        sentence = " (\"" + text + "\")";
+    }
 
     void same(String what, long got, long want) {
-        asked++;
-        if (got != want) {
-            wrong++;
-            System.out.println(what + " answered " + got + ", due is " + want);
-        }
+        same(what, Long.toString(got), Long.toString(want));
     }
 
     void same(String what, String got, String want) {
         asked++;
         if (!got.equals(want)) {
             wrong++;
-            System.out.println(what + " answered " + got + ", due is " + want);
+            System.out.println(what + " answered " + got + ", due is " + want + sentence);
         }
     }
 

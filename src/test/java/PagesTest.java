@@ -17,22 +17,6 @@ public final class PagesTest {
         due.finish();
     }
 
-    private static int entry(int frame, int bits) {
-        return 256 * frame + bits;
-    }
-
-    /** A bench whose directory is frame 1, and whose page n is frame n of memory (through the frames 2 and 3). */
-    private static Bench paged() {
-        Bench b = new Bench();
-        b.setWord(64, entry(2, ALL));
-        b.setWord(66, entry(3, ALL));
-        for (int page = 0; page < 16; page++) {
-            b.setWord(128 + 2 * page, entry(page, ALL));
-            b.setWord(192 + 2 * page, entry(16 + page, ALL));
-        }
-        return b;
-    }
-
     private static void directory(Due due) {
         RingMachine x = new RingMachine();
         int[][] cases = {{0, 0}, {31, 31}, {32, 0}, {-1, 31}, {65, 1}, {Integer.MIN_VALUE, 0}, {Integer.MAX_VALUE, 31}};
@@ -74,9 +58,9 @@ public final class PagesTest {
     }
 
     private static void translation(Due due) {
-        Bench b = paged();
-        b.setWord(70, entry(3, ALL));
-        b.setWord(192 + 2 * 5, entry(30, ALL));
+        Bench b = new Bench().paged();
+        b.setWord(70, Bench.entry(3, ALL));
+        b.setWord(192 + 2 * 5, Bench.entry(30, ALL));
         b.setWord(30 * 64 + 10, 0x1234);
         due.yes("pages on", b.x.pages(33, true));
         due.same("a read in page 53", b.x.read(2, 64 * 53 + 10), 0);
@@ -92,28 +76,28 @@ public final class PagesTest {
     }
 
     private static void seenAndChanged(Due due) {
-        Bench b = paged();
+        Bench b = new Bench().paged();
         b.x.pages(1, true);
         b.x.read(2, 64 * 20);
-        due.same("the directory entry is seen", b.word(66), entry(3, ALL + 32));
-        due.same("the table entry is seen", b.word(192 + 8), entry(20, ALL + 32));
-        due.same("the one beside it is not", b.word(192 + 10), entry(21, ALL));
-        due.same("the other directory entry is not", b.word(64), entry(2, ALL));
+        due.same("the directory entry is seen", b.word(66), Bench.entry(3, ALL + 32));
+        due.same("the table entry is seen", b.word(192 + 8), Bench.entry(20, ALL + 32));
+        due.same("the one beside it is not", b.word(192 + 10), Bench.entry(21, ALL));
+        due.same("the other directory entry is not", b.word(64), Bench.entry(2, ALL));
         b.x.write(2, 64 * 20, 5);
-        due.same("the directory entry is not changed", b.word(66), entry(3, ALL + 32));
-        due.same("the table entry is changed", b.word(192 + 8), entry(20, ALL + 96));
+        due.same("the directory entry is not changed", b.word(66), Bench.entry(3, ALL + 32));
+        due.same("the table entry is changed", b.word(192 + 8), Bench.entry(20, ALL + 96));
         b.x.read(2, 64 * 20);
-        due.same("and stays so", b.word(192 + 8), entry(20, ALL + 96));
+        due.same("and stays so", b.word(192 + 8), Bench.entry(20, ALL + 96));
     }
 
     private static void notPresent(Due due) {
-        Bench b = paged();
-        b.setWord(192 + 2 * 9, entry(25, 6));
+        Bench b = new Bench().paged();
+        b.setWord(192 + 2 * 9, Bench.entry(25, 6));
         b.x.pages(1, true);
         due.same("a read in a page that is not there", b.x.read(2, 64 * 25 + 3), Bench.fault(14, 0));
         due.same("the fault address", b.x.register(10), 64 * 25 + 3);
-        due.same("its entry", b.word(192 + 2 * 9), entry(25, 6));
-        due.same("the directory entry", b.word(66), entry(3, ALL));
+        due.same("its entry", b.word(192 + 2 * 9), Bench.entry(25, 6));
+        due.same("the directory entry", b.word(66), Bench.entry(3, ALL));
         due.same("the code pushed", b.word(b.x.register(3)), 0);
         due.same("the gate's offset", b.x.register(4), 814);
         due.same("a write", b.x.write(2, 64 * 25 + 3, 1), Bench.fault(14, 2));
@@ -134,11 +118,11 @@ public final class PagesTest {
     /** What ring 3 is answered when it reads, then writes, page 20 with these bits in its two entries. */
     private static void outermost(Due due, int directory, int table, int read, int write) {
         for (int writing = 0; writing < 2; writing++) {
-            Bench b = paged();
+            Bench b = new Bench().paged();
             b.toRing(3);
             b.x.load(2, Bench.data(3));
-            b.setWord(66, entry(3, directory));
-            b.setWord(192 + 8, entry(20, table));
+            b.setWord(66, Bench.entry(3, directory));
+            b.setWord(192 + 8, Bench.entry(20, table));
             b.x.pages(1, true);
             int got = writing == 0 ? b.x.read(2, 64 * 20 + 2) : b.x.write(2, 64 * 20 + 2, 7);
             due.same("ring 3, bits " + directory + " and " + table + (writing == 0 ? " read" : " write"),
@@ -159,60 +143,60 @@ public final class PagesTest {
 
     private static void innerRings(Due due) {
         for (int ring = 0; ring < 3; ring++) {
-            Bench b = paged();
+            Bench b = new Bench().paged();
             b.toRing(ring);
             b.x.load(2, Bench.data(ring));
-            b.setWord(66, entry(3, 1));
-            b.setWord(192 + 8, entry(20, 1));
+            b.setWord(66, Bench.entry(3, 1));
+            b.setWord(192 + 8, Bench.entry(20, 1));
             b.x.pages(1, true);
             due.same("a write of ring " + ring + " in a page that is neither open nor writable",
                     b.x.write(2, 64 * 20, 7), 0);
-            due.same("its entry", b.word(192 + 8), entry(20, 97));
+            due.same("its entry", b.word(192 + 8), Bench.entry(20, 97));
         }
     }
 
     private static void acrossPages(Due due) {
-        Bench b = paged();
-        b.setWord(192 + 2 * 9, entry(25, 6));
+        Bench b = new Bench().paged();
+        b.setWord(192 + 2 * 9, Bench.entry(25, 6));
         b.x.pages(1, true);
         due.same("a write into a missing page", b.x.write(2, 64 * 25 - 1, 0x0908), Bench.fault(14, 2));
         due.same("its lower byte stays", b.x.peek(64 * 25 - 1), 8);
         due.same("the fault address is the higher byte's", b.x.register(10), 64 * 25);
-        due.same("the lower byte's page is changed", b.word(192 + 2 * 8), entry(24, ALL + 96));
-        b.setWord(192 + 2 * 9, entry(20, ALL));
+        due.same("the lower byte's page is changed", b.word(192 + 2 * 8), Bench.entry(24, ALL + 96));
+        b.setWord(192 + 2 * 9, Bench.entry(20, ALL));
         due.same("a write into two frames", b.x.write(2, 64 * 25 - 1, 0x0706), 0);
         due.same("the lower byte", b.x.peek(64 * 25 - 1), 6);
         due.same("the higher byte", b.x.peek(64 * 20), 7);
     }
 
     private static void system(Due due) {
-        Bench b = paged();
+        Bench b = new Bench().paged();
         b.toRing(3);
         for (int page = 4; page < 8; page++) {
-            b.setWord(128 + 2 * page, entry(page, 1));
+            b.setWord(128 + 2 * page, Bench.entry(page, 1));
         }
         b.x.pages(1, true);
         due.same("ring 3 has descriptors looked up in a page that is not open", b.x.load(2, Bench.data(3)), 0);
         due.same("but can't read there", b.x.read(2, Bench.TABLE), Bench.fault(14, 5));
         due.same("and goes inwards", b.x.register(6), 0);
-        Bench none = paged();
+        Bench none = new Bench().paged();
         none.toRing(3);
-        none.setWord(128 + 2 * 5, entry(5, 6));
+        none.setWord(128 + 2 * 5, Bench.entry(5, 6));
         none.x.pages(1, true);
         due.same("a descriptor that is not there", none.x.load(2, Bench.data(3)), Bench.fault(14, 0));
         due.same("the fault address is its first byte", none.x.register(10), Bench.TABLE + 8 * 8);
         due.same("the fault is delivered", none.x.register(4), 814);
-        Bench nowhere = paged();
+        Bench nowhere = new Bench().paged();
         nowhere.toRing(3);
-        nowhere.setWord(128 + 2 * 4, entry(4, 6));
-        nowhere.setWord(128 + 2 * 5, entry(5, 6));
+        nowhere.setWord(128 + 2 * 4, Bench.entry(4, 6));
+        nowhere.setWord(128 + 2 * 5, Bench.entry(5, 6));
         nowhere.x.pages(1, true);
         due.same("a table that is not there", nowhere.x.load(2, Bench.data(3)), Bench.fault(14, 0));
         due.same("the machine is down, for no target can be looked up", nowhere.x.register(12), 1);
         due.same("the fault address is the target's", nowhere.x.register(10), Bench.TABLE + 8);
-        Bench half = paged();
+        Bench half = new Bench().paged();
         half.x.tables(316 - 8 * Bench.FREE, 32, Bench.VECTORS);
-        half.setWord(128 + 2 * 5, entry(5, 0));
+        half.setWord(128 + 2 * 5, Bench.entry(5, 0));
         half.x.pages(1, true);
         due.same("a descriptor across pages", half.x.load(2, 4 * Bench.FREE), Bench.fault(14, 0));
         due.same("the fault address is in the second page", half.x.register(10), 320);

@@ -268,15 +268,12 @@ public final class TaskTest {
         due.same("it is no more busy", kind(same, NEW), Bench.TASK);
     }
 
-    /** Pages n are frames n, through the directory in frame 1 or, with frame 30 in place of page 4, in frame 26. */
+    /** A paged bench; with frame 26 as directory, in place of page 4 there is frame 30. */
     private static Bench paged() {
-        Bench b = bench();
-        b.x.fill(64, 0x03070207L);
+        Bench b = bench().paged();
         b.x.fill(26 * 64, 0x0307_1B07L);
         for (int page = 0; page < 16; page++) {
-            b.setWord(128 + 2 * page, 256 * page + 7);
-            b.setWord(192 + 2 * page, 256 * (16 + page) + 7);
-            b.setWord(27 * 64 + 2 * page, 256 * (page == 4 ? 30 : page) + 7);
+            b.setWord(27 * 64 + 2 * page, Bench.entry(page == 4 ? 30 : page, 7));
         }
         return b;
     }
