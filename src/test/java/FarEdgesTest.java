@@ -11,6 +11,7 @@ public final class FarEdgesTest {
         Due due = new Due();
         enterLimits(due);
         enterRpl(due);
+        callOrJump(due);
         nulls(due);
         lookedUp(due);
         anyDescriptor(due);
@@ -73,6 +74,17 @@ public final class FarEdgesTest {
         }
     }
 
+    private static void callOrJump(Due due) {
+        due.sentence("An instruction: a far call (or jump).");
+        Bench b = new Bench();
+        due.same("a jump", b.x.far(4, 100, false), 0);
+        due.same("registers", b.state(), "4 8 8 512 100 0 0");
+        due.same("a call", b.x.far(4, 200, true), 0);
+        due.same("registers", b.state(), "4 8 8 508 200 0 0");
+        due.same("a call to where it is", b.x.far(4, 200, true), 0);
+        due.same("the next", b.word(504), 201);
+    }
+
     private static void nulls(Due due) {
         due.sentence("A FAR transfer (call or jump) to a selector and an offset: NULL: GENERAL with 0.");
         for (int selector = 0; selector < 4; selector++) {
@@ -107,7 +119,7 @@ public final class FarEdgesTest {
     private static void anyDescriptor(Due due) {
         due.sentence("CODE whose level is the ring, with RPL not greater than the ring, or CONFORMING with a level not"
                 + " greater: if it isn't present, MISSING (11) with its code; [...] A CALL gate or a TASK whose level"
-                + " is not less than the ring and RPL: MISSING if it isn't present. [...]"
+                + " is not less than the ring and RPL: MISSING if it isn't present. A task: it is SWITCHED to. [...]"
                 + " Everything else: GENERAL with its code.");
         for (int n = 0; n < 4 * 4 * 4 * 16 * 4; n++) {
             int ring = n % 4;
@@ -352,7 +364,7 @@ public final class FarEdgesTest {
     }
 
     private static void innerWordCounts(Due due) {
-        due.sentence("INNER, with as many words as the gate has"
+        due.sentence("A call: when it is CODE of a lower level: INNER, with as many words as the gate has"
                 + " (read from the old stack: the one that SP names, and so on)");
         for (int words = 0; words < 8; words++) {
             Bench b = new Bench().toRing(3);

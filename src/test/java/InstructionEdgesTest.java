@@ -30,6 +30,7 @@ public final class InstructionEdgesTest {
         doubleFaultByPages(due);
         down(due);
         downWithTheSecond(due);
+        downWithoutAThird(due);
         vectorsWithCodes(due);
         due.finish();
     }
@@ -511,6 +512,21 @@ public final class InstructionEdgesTest {
         two.gate(8, 0L);
         due.same("but without both gates", two.x.read(2, 4095), Bench.general(0));
         due.same("it is down", two.x.register(12), 1);
+    }
+
+    /** What the delivery of vector 8 pushes mends its own gate, but it is not delivered once more. */
+    private static void downWithoutAThird(Due due) {
+        due.sentence("if that raises one, the machine is DOWN.");
+        Bench b = new Bench();
+        int gate = Bench.VECTORS + 8 * 8;
+        while (b.x.register(3) < gate + 2) {
+            b.x.pop();
+        }
+        b.gate(13, 0L);
+        b.gate(8, Bench.descriptor(4096, 4, Bench.TRAP, 3));
+        due.same("a fault", b.x.load(2, 4 * 30), Bench.general(120));
+        due.same("FLAGS were pushed on the gate's offset", b.word(gate), 0);
+        due.same("the machine is down", b.x.register(12), 1);
     }
 
     private static void vectorsWithCodes(Due due) {

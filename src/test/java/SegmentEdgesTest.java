@@ -28,6 +28,7 @@ public final class SegmentEdgesTest {
         loadKeeps(due);
         read(due);
         write(due);
+        push(due);
         pop(due);
         due.finish();
     }
@@ -339,7 +340,8 @@ public final class SegmentEdgesTest {
     }
 
     private static void loadKeeps(Due due) {
-        due.sentence("An instruction: segment s (1 SS, 2 DS) is loaded.");
+        due.sentence("An instruction: segment s (1 SS, 2 DS) is loaded. [...] REGISTERS: the segments CS, SS, DS, each a"
+                + " selector and what was looked up for it (DS may be NULL; at first");
         Bench b = new Bench();
         b.put(FREE, Bench.descriptor(1, 4000, Bench.DATA, 0));
         due.same("a load of SS", b.x.load(1, 4 * FREE), 0);
@@ -382,6 +384,17 @@ public final class SegmentEdgesTest {
         due.same("the byte behind", b.x.peek(702), 2);
         due.same("registers", b.state(), "4 8 8 512 1 0 0");
         due.same("the accumulator", b.x.register(11), 0);
+    }
+
+    private static void push(Due due) {
+        due.sentence("An instruction: a word is pushed.");
+        Bench b = new Bench();
+        b.setWord(508, 3);
+        due.same("a push", b.x.push(0x1234), 0);
+        due.same("the word", b.word(510), 0x1234);
+        due.same("the word behind", b.word(512), 800);
+        due.same("the word ahead", b.word(508), 3);
+        due.same("registers", b.state(), "4 8 8 510 1 0 0");
     }
 
     private static void pop(Due due) {

@@ -16,6 +16,8 @@ public final class TableEdgesTest {
         otherBytes(due);
         countAheadOfReading(due);
         ascending(due);
+        ascendingAddress(due);
+        ascendingGates(due);
         bySystem(due);
         gates(due);
         gatesBySystem(due);
@@ -84,7 +86,8 @@ public final class TableEdgesTest {
     }
 
     private static void kinds(Due due) {
-        due.sentence("byte 4 the KIND (its lowest 4 bits)");
+        due.sentence("byte 4 the KIND (its lowest 4 bits): 1 CODE, 2 CONFORMING code, 3 READ-ONLY data, 4 data, 5 TASK,"
+                + " 6 BUSY task, 7 CALL gate; byte 5");
         for (int kind = 0; kind < 256; kind++) {
             Bench b = new Bench();
             b.put(FREE, Bench.descriptor(7, 70, kind, 0));
@@ -111,7 +114,7 @@ public final class TableEdgesTest {
         due.sentence("byte 5: bits 0, 1 the LEVEL, bit 7 PRESENT");
         for (int bits = 0; bits < 128; bits++) {
             Bench b = new Bench();
-            b.put(FREE, Bench.descriptor(7, 70, Bench.DATA, 0));
+            b.put(FREE, Bench.descriptor(7, 70, Bench.DATA, 0) | 0xFFFFL << 48);
             b.x.poke(Bench.TABLE + 8 * FREE + 5, bits);
             due.same("a load with byte 5 being " + bits, b.x.load(2, 4 * FREE), Bench.fault(11, 4 * FREE));
         }
@@ -166,41 +169,83 @@ public final class TableEdgesTest {
         due.same("the page of the code was read for the fault", there.bitsOfPage(4), 39);
     }
 
-    /** A bench with a descriptor that has four bytes each in pages 20 and 21; the code of the gates is in page 19. */
-    private static Bench across(int first, int second) {
+    private static void putBytes(Bench b, int place, long bytes) {
+        for (int i = 0; i < 8; i++) {
+            b.x.poke(place + i, (int) (bytes >>> 8 * i));
+        }
+    }
+
+    /**
+     * A bench with a descriptor and the gate of vector 5 that have so many bytes each at the end of page 20 and of
+     * page 22, the others in pages 21 and 23; the pages have these bits. The code of the gates is in page 19.
+     */
+    private static Bench across(int bytes, int first, int second) {
         Bench b = new Bench().paged();
-        int place = 64 * 21 - 4;
-        for (int i = 0; i < 8; i++) {
-            b.x.poke(place + i, (int) (Bench.descriptor(0x0506, 0x0708, Bench.DATA, 0) >>> 8 * i));
+        int table = 64 * 21 - bytes - 8 * ACROSS;
+        putBytes(b, table + 8 * ACROSS, Bench.descriptor(0x0506, 0x0708, Bench.DATA, 0) | 0xFFL << 56);
+        putBytes(b, table + 8, Bench.descriptor(0, 4095, Bench.CODE, 0));
+        int vectors = 64 * 23 - bytes - 8 * 5;
+        for (int v = 0; v < 16; v++) {
+            putBytes(b, vectors + 8 * v, Bench.descriptor(800 + v, 4, Bench.TRAP, 3));
         }
-        for (int i = 0; i < 8; i++) {
-            b.x.poke(place - 8 * (ACROSS - 1) + i, (int) (Bench.descriptor(0, 4095, Bench.CODE, 0) >>> 8 * i));
+        for (int page = 20; page < 24; page++) {
+            b.setPage(page, page % 2 == 0 ? first : second);
         }
-        b.setPage(20, first);
-        b.setPage(21, second);
-        b.x.tables(place - 8 * ACROSS, Bench.COUNT, Bench.VECTORS);
+        b.x.tables(table, Bench.COUNT, vectors);
         b.x.pages(1, true);
         return b;
     }
 
     private static void ascending(Due due) {
         due.sentence("otherwise its eight bytes are read by the system, ascending.");
-        Bench both = across(7, 7);
-        due.same("a descriptor across two pages", both.x.load(2, 4 * ACROSS), 0);
-        due.same("DS", both.held(2), 0x0506 + " " + 0x0708 + " 4 0");
-        due.same("the first page is seen", both.bitsOfPage(20), 39);
-        due.same("the second page is seen", both.bitsOfPage(21), 39);
-        Bench second = across(7, 6);
-        due.same("the second page is not there", second.x.load(2, 4 * ACROSS), Bench.fault(14, 0));
-        due.same("the fault address", second.x.register(10), 64 * 21);
-        due.same("the first page was seen", second.bitsOfPage(20), 39);
-        Bench first = across(6, 7);
-        due.same("the first page is not there", first.x.load(2, 4 * ACROSS), Bench.fault(14, 0));
-        due.same("the fault address", first.x.register(10), 64 * 21 - 4);
-        due.same("the second page was not seen", first.bitsOfPage(21), 7);
-        Bench none = across(6, 6);
-        due.same("neither page is there", none.x.load(2, 4 * ACROSS), Bench.fault(14, 0));
-        due.same("the fault address", none.x.register(10), 64 * 21 - 4);
+        for (int bytes = 1; bytes < 8; bytes++) {
+            Bench both = across(bytes, 7, 7);
+            due.same("a descriptor across two pages", both.x.load(2, 4 * ACROSS), 0);
+            due.same("DS", both.held(2), 0x0506 + " " + 0x0708 + " 4 0");
+            due.same("the first page is seen", both.bitsOfPage(20), 39);
+            due.same("the second page is seen", both.bitsOfPage(21), 39);
+            Bench second = across(bytes, 7, 6);
+            due.same("the second page is not there", second.x.load(2, 4 * ACROSS), Bench.fault(14, 0));
+            due.same("the first page was seen", second.bitsOfPage(20), 39);
+            Bench first = across(bytes, 6, 7);
+            due.same("the first page is not there", first.x.load(2, 4 * ACROSS), Bench.fault(14, 0));
+            due.same("the second page was not seen", first.bitsOfPage(21), 7);
+        }
+    }
+
+    private static void ascendingAddress(Due due) {
+        due.sentence("otherwise its eight bytes are read by the system, ascending.");
+        for (int bytes = 1; bytes < 8; bytes++) {
+            for (int missing = 0; missing < 2; missing++) {
+                Bench b = across(bytes, 7, 7);
+                b.setPage(20 + missing, 6);
+                due.same("a descriptor half in a page that is not there", b.x.load(2, 4 * ACROSS), Bench.fault(14, 0));
+                due.same("the fault address", b.x.register(10), missing == 1 ? 64 * 21 : 64 * 21 - bytes);
+                due.same("the fault is delivered", b.x.register(4), 814);
+            }
+        }
+    }
+
+    private static void ascendingGates(Due due) {
+        due.sentence("GATES for vectors 0 .. 15 stand likewise from the linear address VECTORS on");
+        for (int bytes = 1; bytes < 8; bytes++) {
+            Bench both = across(bytes, 7, 7);
+            due.same("a gate across two pages", both.x.trap(5), 0);
+            due.same("IP", both.x.register(4), 805);
+            due.same("the first page is seen", both.bitsOfPage(22), 39);
+            due.same("the second page is seen", both.bitsOfPage(23), 39);
+            Bench first = across(bytes, 7, 7);
+            first.setPage(22, 6);
+            due.same("a gate whose first bytes are not there", first.x.trap(5), Bench.fault(14, 0));
+            due.same("the fault address", first.x.register(10), 64 * 23 - bytes);
+            due.same("vector 14 is in page 24", first.x.register(4), 814);
+            Bench second = across(bytes, 7, 7);
+            second.setPage(23, 6);
+            due.same("a gate whose last bytes are not there", second.x.trap(5), Bench.fault(14, 0));
+            due.same("the fault address", second.x.register(10), 64 * 23);
+            due.same("vector 14 is in page 24", second.x.register(4), 814);
+            due.same("the first page was seen", second.bitsOfPage(22), 39);
+        }
     }
 
     private static void bySystem(Due due) {

@@ -20,6 +20,7 @@ public final class TaskEdgesTest {
         presentAside(due);
         stateRead(due);
         stateReadBySystem(due);
+        stateIsEightWords(due);
         stateSaved(due);
         stateSavedBySystem(due);
         readAheadOfSaved(due);
@@ -153,6 +154,29 @@ public final class TaskEdgesTest {
             due.same(WAYS[way] + " to a state half in a page that is not there", go(half, way), Bench.fault(14, 0));
             due.same("the fault address", half.x.register(10), 64 * 19);
             due.same("nothing is saved", half.word(OLD_STATE + 14), 90);
+        }
+    }
+
+    /** Both states end with their pages, and the pages behind are not there. */
+    private static void stateIsEightWords(Due due) {
+        due.sentence("Its state, eight words, is read by the system from its base + 14 on");
+        for (int way = JUMP; way <= RETURN; way++) {
+            Bench b = new Bench().paged();
+            int state = 64 * 20 - 30;
+            int oldState = 64 * 22 - 30;
+            b.put(NEW, Bench.descriptor(state, 0, way == RETURN ? Bench.BUSY : Bench.TASK, 3));
+            b.put(OLD, Bench.descriptor(oldState, 0, Bench.TASK, 3));
+            b.taskState(state, 50, 1, 700, Bench.code(3), Bench.data(3), Bench.data(3), 3, 1);
+            b.taskState(oldState, 90, way == RETURN ? 2 : 0, 660, 4, 8, 8, 0, 1);
+            b.setWord(oldState, 4 * NEW);
+            b.x.far(4 * OLD, 0, false);
+            b.setPage(20, 6);
+            b.setPage(22, 6);
+            b.x.pages(1, true);
+            due.same(WAYS[way] + " between states at the ends of their pages", go(b, way), 0);
+            due.same("registers", b.state(), Bench.code(3) + " " + Bench.data(3) + " " + Bench.data(3) + " 700 50 "
+                    + (way == CALL ? 3 : 1) + " 3");
+            due.same("the old state", b.savedState(oldState), "91 0 660 4 8 8 0 1");
         }
     }
 
