@@ -22,6 +22,8 @@ public final class DeliveryEdgesTest {
         innerStacks(due);
         room(due);
         roomForTheCode(due);
+        codeBehindEntering(due);
+        pushedByTheNewRing(due);
         nested(due);
         enabled(due);
         flagsOfFaults(due);
@@ -302,6 +304,42 @@ public final class DeliveryEdgesTest {
             due.same("IP", b.x.register(4), sp < 12 ? 808 : 900);
             due.same("SP", b.x.register(3), sp < 12 ? Bench.innerSp(0) - 12 : sp - 12);
         }
+    }
+
+    private static void codeBehindEntering(Due due) {
+        due.sentence("Then the code of a fault, if it has one, is pushed.");
+        Bench b = new Bench().toRing(3);
+        b.gate(13, Bench.descriptor(4096, Bench.code(1), Bench.TRAP, 3));
+        due.same("a fault beyond the limit of its code", b.x.load(2, 4 * 30), Bench.general(120));
+        due.same("vector 8 is delivered", b.x.register(4), 808);
+        due.same("IP was pushed ahead of entering", b.word(Bench.innerSp(1) - 10), 40);
+        due.same("the code was not", b.word(Bench.innerSp(1) - 12), 0);
+    }
+
+    private static void pushedByTheNewRing(Due due) {
+        due.sentence("From here on the ring is the level, and SS and SP are these");
+        for (int level = 0; level < 3; level++) {
+            for (int trap = 0; trap < 2; trap++) {
+                Bench b = new Bench().paged().toRing(3);
+                b.gate(13, Bench.descriptor(900, Bench.code(level), Bench.TRAP, 3));
+                b.setPage(13, 1);
+                b.setPage(14, 1);
+                b.setPage(15, 1);
+                b.x.pages(1, true);
+                due.same("pushes of ring " + level + " in a page that is not open",
+                        trap == 1 ? b.x.trap(13) : b.x.load(2, 4 * 30), trap == 1 ? 0 : Bench.general(120));
+                due.same("SP", b.x.register(3), Bench.innerSp(level) - (trap == 1 ? 10 : 12));
+                due.same("IP", b.x.register(4), 900);
+            }
+        }
+        // Conforming code keeps the ring, so ring 3 pushes on its own stack.
+        Bench own = new Bench().paged().toRing(3);
+        own.put(FREE, Bench.descriptor(0, 4095, Bench.CONFORMING, 0));
+        own.gate(5, Bench.descriptor(900, 4 * FREE, Bench.TRAP, 3));
+        own.setPage(10, 5);
+        own.x.pages(1, true);
+        due.same("a push of ring 3 in a page that is not writable", own.x.trap(5), Bench.fault(14, 7));
+        due.same("the fault address", own.x.register(10), 698);
     }
 
     private static void nested(Due due) {

@@ -24,6 +24,7 @@ public final class FarEdgesTest {
         targetRpl(due);
         jumpEnters(due);
         sameStack(due);
+        pushedAheadOfEntering(due);
         innerPlaces(due);
         innerNull(due);
         innerStacks(due);
@@ -269,6 +270,25 @@ public final class FarEdgesTest {
             due.same("CS", b.word(698), Bench.code(2));
             due.same("the next", b.word(696), 41);
         }
+    }
+
+    private static void pushedAheadOfEntering(Due due) {
+        due.sentence("otherwise CS and THE NEXT are pushed; it is entered.");
+        for (int sp = 0; sp < 6; sp++) {
+            Bench b = new Bench().toStack(Bench.data(3), sp);
+            b.put(FREE, Bench.callGate(Bench.code(3), 4096, 3, 0));
+            due.same("a gate's call at SP " + sp + " beyond the limit", b.x.far(Bench.select(FREE, 3), 0, true),
+                    sp < 4 ? STACK : Bench.general(0));
+        }
+        Bench b = new Bench().toRing(3);
+        b.put(FREE, Bench.callGate(Bench.code(3), 4096, 3, 0));
+        due.same("a gate's call beyond the limit", b.x.far(Bench.select(FREE, 3), 0, true), Bench.general(0));
+        due.same("what it pushed stays", b.word(698) + " " + b.word(696), Bench.code(3) + " 41");
+        due.same("SP is as before", b.word(Bench.innerSp(0) - 4), 700);
+        Bench inner = new Bench().toRing(3);
+        inner.put(FREE, Bench.callGate(Bench.code(1), 4096, 3, 0));
+        due.same("a call inwards beyond the limit", inner.x.far(Bench.select(FREE, 3), 0, true), Bench.general(0));
+        due.same("what it pushed stays", inner.word(Bench.innerSp(1) - 8), 41);
     }
 
     private static void innerPlaces(Due due) {

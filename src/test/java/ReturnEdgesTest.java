@@ -103,6 +103,14 @@ public final class ReturnEdgesTest {
                     ring == 3 ? Bench.fault(14, 5) : 0);
             due.same("the page is only read", b.bitsOfPage(10), ring == 3 ? 1 : 33);
         }
+        for (int ring = 1; ring < 3; ring++) {
+            Bench b = new Bench().paged().toRing(ring);
+            b.push(Bench.data(3), 600, 1, Bench.code(3), 300);
+            b.setPage(10, 1);
+            b.x.pages(1, true);
+            due.same("an end of ring " + ring + " outwards from a page that is not open", b.x.end(), 0);
+            due.same("SP", b.x.register(3), 600);
+        }
     }
 
     private static void nulls(Due due) {
@@ -259,6 +267,15 @@ public final class ReturnEdgesTest {
         b.put(FREE, Bench.absent(Bench.descriptor(0, 99, Bench.CODE, 3)));
         b.push(0, 600, Bench.select(FREE, 3), 300);
         due.same("CS is looked at ahead of SS", b.x.back(), Bench.fault(11, 4 * FREE));
+        for (int kind = Bench.CODE; kind <= Bench.DATA; kind += 3) {
+            Bench few = new Bench();
+            few.put(OTHER, Bench.descriptor(0, 703, Bench.DATA, 2));
+            few.put(FREE, Bench.absent(Bench.descriptor(0, 99, kind, 3)));
+            few.setWord(702, Bench.select(FREE, 3));
+            few.toStack(Bench.select(OTHER, 2), 700);
+            due.same("CS is looked at ahead of popping SP and SS", few.x.back(),
+                    Bench.fault(kind == Bench.CODE ? 11 : 13, 4 * FREE));
+        }
         Bench late = new Bench();
         late.put(FREE, Bench.absent(Bench.descriptor(0, 4095, Bench.DATA, 3)));
         late.push(Bench.select(FREE, 3), 600, Bench.code(3), 4096);

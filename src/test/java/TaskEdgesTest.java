@@ -29,6 +29,7 @@ public final class TaskEdgesTest {
         oldKindBits(due);
         oldKindBeyondCount(due);
         oldKindPages(due);
+        oldKindWritten(due);
         newKind(due);
         newKindBits(due);
         link(due);
@@ -311,6 +312,19 @@ public final class TaskEdgesTest {
             due.same("the new kind", kind(b, NEW), way == JUMP ? Bench.TASK : Bench.BUSY);
             due.same("the state was saved ahead", b.word(OLD_STATE + 14), 91);
             due.same("TR", b.x.register(7), way == CALL ? 4 * NEW : 4 * 17);
+        }
+    }
+
+    private static void oldKindWritten(Due due) {
+        due.sentence("(at TABLE + 8 * index + 4, read and then written)");
+        for (int kind = Bench.TASK; kind <= Bench.BUSY; kind++) {
+            for (int way = JUMP; way <= RETURN; way++) {
+                Bench b = farOld(way);
+                b.x.poke(Bench.TABLE + 8 * 17 + 4, kind);
+                b.x.pages(1, true);
+                due.same(WAYS[way] + " from a task whose kind is " + kind, go(b, way), 0);
+                due.same("its page is changed", b.bitsOfPage(6), way == CALL ? 7 : 7 + 96);
+            }
         }
     }
 
