@@ -184,7 +184,8 @@ public final class FarEdgesTest {
     }
 
     private static void gateAheadOfTarget(Due due) {
-        due.sentence("A CALL gate or a TASK whose level is not less than the ring and RPL: MISSING if it isn't present.");
+        due.sentence("A CALL gate or a TASK whose level is not less than the ring and RPL:"
+                + " MISSING if it isn't present.");
         for (int call = 0; call < 2; call++) {
             Bench b = new Bench();
             b.put(FREE, Bench.absent(Bench.callGate(0, 70, 0, 0)));

@@ -1,4 +1,4 @@
-/** The sentences on what instructions answer, on numbers given, and on raising and delivering faults, at their edges. */
+/** The sentences on what instructions answer, on numbers given, on raising and delivering faults, at their edges. */
 public final class InstructionEdgesTest {
     private static final int FREE = Bench.FREE;
     private static final int OTHER = Bench.FREE + 1;
@@ -519,7 +519,7 @@ public final class InstructionEdgesTest {
         due.sentence("if that raises one, the machine is DOWN.");
         Bench b = new Bench();
         int gate = Bench.VECTORS + 8 * 8;
-        while (b.x.register(3) < gate + 2) {
+        for (int sp = 512; sp < gate + 2; sp += 2) {
             b.x.pop();
         }
         b.gate(13, 0L);

@@ -340,8 +340,9 @@ public final class SegmentEdgesTest {
     }
 
     private static void loadKeeps(Due due) {
-        due.sentence("An instruction: segment s (1 SS, 2 DS) is loaded. [...] REGISTERS: the segments CS, SS, DS, each a"
-                + " selector and what was looked up for it (DS may be NULL; at first");
+        due.sentence("An instruction: segment s (1 SS, 2 DS) is loaded."
+                + " [...] REGISTERS: the segments CS, SS, DS, each a selector and what was looked up for it"
+                + " (DS may be NULL; at first");
         Bench b = new Bench();
         b.put(FREE, Bench.descriptor(1, 4000, Bench.DATA, 0));
         due.same("a load of SS", b.x.load(1, 4 * FREE), 0);

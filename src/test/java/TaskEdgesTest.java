@@ -56,28 +56,33 @@ public final class TaskEdgesTest {
 
     /** A bench whose task is OLD, and that can switch to NEW, whose ring is 3, by a jump, a call or a return. */
     private static Bench bench(int way) {
-        return bench(way, 1);
+        return bench(way, 1, 0);
     }
 
-    /** The old task's FLAGS are these, and NESTED for a return. */
-    private static Bench bench(int way, int flags) {
+    /** The old task's FLAGS are these, and NESTED for a return; its ring is this one. */
+    private static Bench bench(int way, int flags, int ring) {
         Bench b = new Bench();
         b.put(NEW, Bench.descriptor(STATE, 0, way == RETURN ? Bench.BUSY : Bench.TASK, 3));
         b.put(OLD, Bench.descriptor(OLD_STATE, 0, Bench.TASK, 3));
         b.taskState(STATE, 50, 1, 700, Bench.code(3), Bench.data(3), Bench.data(3), 3, 7);
-        b.taskState(OLD_STATE, 90, flags | (way == RETURN ? 2 : 0), 660, Bench.code(0), Bench.data(0), OLD_DS, 0, 5);
-        for (int ring = 0; ring < 3; ring++) {
-            b.innerStack(STATE, ring, INNER_SP - 40 * ring, Bench.data(ring));
-            b.innerStack(OLD_STATE, ring, Bench.innerSp(ring), Bench.data(ring));
+        b.taskState(OLD_STATE, 90, flags | (way == RETURN ? 2 : 0), 660, Bench.code(ring), Bench.data(ring), OLD_DS,
+                ring, 5);
+        for (int level = 0; level < 3; level++) {
+            b.innerStack(STATE, level, INNER_SP - 40 * level, Bench.data(level));
+            b.innerStack(OLD_STATE, level, Bench.innerSp(level), Bench.data(level));
         }
         b.setWord(OLD_STATE, 4 * NEW);
         b.x.far(4 * OLD, 0, false);
         return b;
     }
 
-    /** The same with pages on, through directory 1 for both tasks. */
     private static Bench paged(int way) {
-        Bench b = bench(way).paged();
+        return paged(way, 0);
+    }
+
+    /** The same with pages on, through directory 1 for both tasks. */
+    private static Bench paged(int way, int ring) {
+        Bench b = bench(way, 1, ring).paged();
         b.setWord(STATE + 28, 1);
         b.x.pages(1, true);
         return b;
@@ -138,23 +143,21 @@ public final class TaskEdgesTest {
 
     private static void stateReadBySystem(Due due) {
         due.sentence("Its state, eight words, is read by the system from its base + 14 on");
-        // The state of NEW goes from page 19 to page 20; that of OLD is in page 20.
+        // The state of NEW goes from page 18 to page 19; that of OLD is in page 20.
         for (int way = JUMP; way <= RETURN; way++) {
-            Bench b = paged(way);
-            b.put(NEW, Bench.descriptor(64 * 19 - 24, 0, way == RETURN ? Bench.BUSY : Bench.TASK, 3));
-            b.setPage(18, 6);
-            String before = b.state();
-            due.same(WAYS[way] + " to a state in a page that is not there", go(b, way), Bench.fault(14, 0));
-            due.same("the fault address", b.x.register(10), 64 * 19 - 10);
-            due.same("TR", b.x.register(7), 4 * OLD);
-            due.same("nothing is saved", b.word(OLD_STATE + 14), 90);
-            due.same("CS, SS and DS", b.state().substring(0, 6), before.substring(0, 6));
-            Bench half = paged(way);
-            half.put(NEW, Bench.descriptor(64 * 19 - 24, 0, way == RETURN ? Bench.BUSY : Bench.TASK, 3));
-            half.setPage(19, 6);
-            due.same(WAYS[way] + " to a state half in a page that is not there", go(half, way), Bench.fault(14, 0));
-            due.same("the fault address", half.x.register(10), 64 * 19);
-            due.same("nothing is saved", half.word(OLD_STATE + 14), 90);
+            for (int ring = 0; ring < 4; ring += 3) {
+                for (int missing = 18; missing < 20; missing++) {
+                    Bench b = paged(way, ring);
+                    b.put(NEW, Bench.descriptor(64 * 19 - 24, 0, way == RETURN ? Bench.BUSY : Bench.TASK, 3));
+                    b.setPage(missing, 6);
+                    due.same(WAYS[way] + " in ring " + ring + " to a state that is not all there", go(b, way),
+                            Bench.fault(14, 0));
+                    due.same("the fault address", b.x.register(10), missing == 18 ? 64 * 19 - 10 : 64 * 19);
+                    due.same("TR", b.x.register(7), 4 * OLD);
+                    due.same("nothing is saved", b.word(OLD_STATE + 14), 90);
+                    due.same("DS is as before", b.x.register(2), OLD_DS);
+                }
+            }
         }
     }
 
@@ -205,12 +208,14 @@ public final class TaskEdgesTest {
         due.sentence("Then those of the machine (THE NEXT as IP) are written to the old state in the same places,"
                 + " by the system.");
         for (int way = JUMP; way <= RETURN; way++) {
-            Bench b = paged(way);
-            b.setPage(20, 1);
-            b.setPage(18, 1);
-            due.same(WAYS[way] + " with states in pages that are not open", go(b, way), 0);
-            due.same("the old state's page is changed", b.bitsOfPage(20), 1 + 96);
-            due.same("the new state's page is only changed by a link", b.bitsOfPage(18), way == CALL ? 97 : 33);
+            for (int ring = 0; ring < 4; ring += 3) {
+                Bench b = paged(way, ring);
+                b.setPage(20, 1);
+                b.setPage(18, 1);
+                due.same(WAYS[way] + " in ring " + ring + " with states in pages that are not open", go(b, way), 0);
+                due.same("the old state's page is changed", b.bitsOfPage(20), 1 + 96);
+                due.same("the new state's page is only changed by a link", b.bitsOfPage(18), way == CALL ? 97 : 33);
+            }
         }
         // The first state stands at 1024; from 1038 on in page 16, which is taken away.
         Bench none = new Bench().paged();
@@ -222,6 +227,11 @@ public final class TaskEdgesTest {
         due.same("the fault address", none.x.register(10), Bench.STATE + 14);
         due.same("the new kind", kind(none, NEW), Bench.TASK);
         due.same("TR", none.x.register(7), 0);
+        Bench outer = new Bench().paged().toRing(3);
+        outer.put(NEW, Bench.descriptor(STATE, 0, Bench.TASK, 3));
+        outer.setPage(16, 6);
+        outer.x.pages(1, true);
+        due.same("one of ring 3", outer.x.far(4 * NEW, 0, false), Bench.fault(14, 2));
     }
 
     private static void readAheadOfSaved(Due due) {
@@ -297,10 +307,13 @@ public final class TaskEdgesTest {
     private static void oldKindPages(Due due) {
         due.sentence("(at TABLE + 8 * index + 4, read and then written)");
         for (int way = JUMP; way <= RETURN; way++) {
-            Bench b = paged(way);
-            b.setPage(5, 1);
-            due.same(WAYS[way] + " with descriptors in a page that is not open", go(b, way), 0);
-            due.same("it is changed", b.bitsOfPage(5), 1 + 96);
+            for (int ring = 0; ring < 4; ring += 3) {
+                Bench b = paged(way, ring);
+                b.setPage(5, 1);
+                due.same(WAYS[way] + " in ring " + ring + " with descriptors in a page that is not open",
+                        go(b, way), 0);
+                due.same("it is changed", b.bitsOfPage(5), 1 + 96);
+            }
         }
         for (int way = JUMP; way <= RETURN; way++) {
             Bench b = farOld(way);
@@ -396,17 +409,19 @@ public final class TaskEdgesTest {
     private static void linkPages(Due due) {
         due.sentence("a call writes TR as a word at the new base (all this by the system), and NESTED will be set.");
         for (int way = JUMP; way <= CALL; way++) {
-            Bench b = paged(way);
-            b.put(NEW, Bench.descriptor(64 * 19 - 2, 0, Bench.TASK, 3));
-            b.taskState(64 * 19 - 2, 50, 1, 700, Bench.code(3), Bench.data(3), 0, 3, 1);
-            b.setPage(18, 6);
-            due.same(WAYS[way] + " to a base in a page that is not there", go(b, way),
-                    way == CALL ? Bench.fault(14, 2) : 0);
-            due.same("the fault address", b.x.register(10), way == CALL ? 64 * 19 - 2 : 0);
-            due.same("the new one was marked ahead", kind(b, NEW), Bench.BUSY);
-            due.same("TR", b.x.register(7), way == CALL ? 4 * OLD : 4 * NEW);
-            due.same("FLAGS", b.x.register(5), 1);
-            due.same("RING", b.x.register(6), way == CALL ? 0 : 3);
+            for (int ring = 0; ring < 4; ring += 3) {
+                Bench b = paged(way, ring);
+                b.put(NEW, Bench.descriptor(64 * 19 - 2, 0, Bench.TASK, 3));
+                b.taskState(64 * 19 - 2, 50, 1, 700, Bench.code(3), Bench.data(3), 0, 3, 1);
+                b.setPage(18, 6);
+                due.same(WAYS[way] + " in ring " + ring + " to a base in a page that is not there", go(b, way),
+                        way == CALL ? Bench.fault(14, 2) : 0);
+                due.same("the fault address", b.x.register(10), way == CALL ? 64 * 19 - 2 : 0);
+                due.same("the new one was marked ahead", kind(b, NEW), Bench.BUSY);
+                due.same("TR", b.x.register(7), way == CALL ? 4 * OLD : 4 * NEW);
+                due.same("FLAGS", b.x.register(5), 1);
+                due.same("RING", b.x.register(6), way == CALL ? 0 : 3);
+            }
         }
     }
 
@@ -414,7 +429,7 @@ public final class TaskEdgesTest {
         due.sentence("(with a return, NESTED is cleared in the FLAGS that were written)");
         for (int way = JUMP; way <= RETURN; way++) {
             for (int flags = 0; flags < 4; flags++) {
-                Bench b = bench(way, flags);
+                Bench b = bench(way, flags, 0);
                 due.same(WAYS[way], go(b, way), 0);
                 due.same("FLAGS saved of " + flags, b.word(OLD_STATE + 16), way == RETURN ? flags & 1 : flags);
             }
