@@ -24,7 +24,8 @@ public final class RegisterEdgesTest {
     private static void atFirst(Due due) {
         due.sentence("REGISTERS: the segments CS, SS, DS [...] selectors 4, 8, 8);"
                 + " SP, IP (16 bits, at first 512 and 0), FLAGS (bit 0 ENABLED, bit 1 NESTED), RING (at first 0),"
-                + " the task register TR (a selector, at first 0, and the linear address of its TASK STATE, at first 1024).");
+                + " the task register TR (a selector, at first 0, and the linear address of its TASK STATE,"
+                + " at first 1024).");
         int[] want = {4, 8, 8, 512, 0, 0, 0, 0, 1024, 0, 0, 0, 0};
         for (int k = 0; k < want.length; k++) {
             due.same("register " + k, new RingMachine().register(k), want[k]);
